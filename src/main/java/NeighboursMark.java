@@ -720,6 +720,10 @@ public final class NeighboursMark {
         }
 
         static int sumOfMarks(School s) {
+            // By these LAWS all have one MARK; ways and SEATINGS are many, so it is not worked out for each.
+            if (s.law == LAW_MEAN || s.law == LAW_LEAST) {
+                return s.count * markOf(s, 0);
+            }
             int sum = 0;
             for (int p = 0; p < s.count; p++) {
                 sum += markOf(s, p);
@@ -1149,8 +1153,10 @@ public final class NeighboursMark {
             int itsMark = Marks.markOf(mind, p);
             boolean greater = false;
             for (int h = 0; h <= mind.hours && !greater; h++) {
-                mind.setLearn(p, h);
-                greater = Marks.markOf(mind, p) > itsMark;
+                if (h != was) {
+                    mind.setLearn(p, h);
+                    greater = Marks.markOf(mind, p) > itsMark;
+                }
             }
             mind.setLearn(p, was);
             return greater;

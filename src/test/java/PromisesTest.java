@@ -347,10 +347,14 @@ public final class PromisesTest {
         learns("h1", h, 1, 1);
         NeighboursMark nobody = new NeighboursMark();
         due("a week of nobody", nobody.week(), 1);
+        // An object is promised for 512 calls only; the bound is looked at all the same.
         NeighboursMark many = of("ps11;");
-        for (int n = 1; n <= 400; n++) {
+        for (int n = 1; n <= 999; n++) {
             due("week " + n, many.week(), n);
         }
+        due("the week behind 999", many.week(), -6);
+        due("week", many.count(2), 999);
+        due("-6", many.count(16), 1);
     }
 
     private static void promise10Sits() {
@@ -505,10 +509,20 @@ public final class PromisesTest {
         due("six weeks", six.again(), 6);
         six.learn(3, 0);
         due("three weeks of six", six.again(), 3);
+        due("30 weeks", learning("h3;l5;pt54;pb31;pb34;pt98;pt79;pt49;", 0, 3, 3, 0, 0, 3).again(), 30);
+        due("31 weeks", learning("h1;l4;pt00;pt41;pb45;pt51;pt88;", 1, 0, 0, 1, 1).again(), -9);
         due("stays", of("po11;").again(), 1);
         due("nobody", new NeighboursMark().again(), 1);
         due("only in mind", six.count(2), 0);
         due("only in mind", six.pupil(0, 4), 0);
+    }
+
+    private static NeighboursMark learning(String text, int... hours) {
+        NeighboursMark x = of(text);
+        for (int p = 0; p < hours.length; p++) {
+            x.learn(p, hours[p]);
+        }
+        return x;
     }
 
     private static void promise17() {
@@ -669,6 +683,8 @@ public final class PromisesTest {
         NeighboursMark two = of("w;h1;ps91;ps11;ps91;ps11;m9;");
         due("now", two.passed(), 2);
         due("both", two.mends(2 | 8), 2);
+        // 1, 3 and 5 each want a 9 to the left: of all six SEATS each is wrong, and a change mends but two.
+        due("three would", of("w;h1;ps91;ps11;ps91;ps11;ps91;ps11;m9;").mends(2 | 8 | 32), -9);
         due("2 has one already", of("w;h1;ps11;ps91;m9;").mends(1), 0);
         due("one alone", of("ps11;").mends(1), -9);
         due("nobody", new NeighboursMark().mends(1), -1);
@@ -839,6 +855,23 @@ public final class PromisesTest {
         learns("on", x, 3, 0, 1);
         due("sick", x.pupil(1, 3), 1);
         due("the letters go on", Due.tell(x, "2;"), 1);
+        due("h2", x.count(1), 2);
+        x.on();
+        x.judge();
+        x.row(99);
+        x.row(99);
+        x.on();
+        // KNOWS 0: 15, 1: 0 (SICK), 2: 4; HALVES in the ROW 2 1 0: 7, 7, 2.
+        marks("on", x, 7, 7, 2);
+        due("the row told then", x.judge(), 0);
+        x.judge();
+        x.row(7);
+        x.row(7);
+        x.image();
+        x.judge();
+        x.row(99);
+        x.on();
+        due("the row told then", x.judge(), 2);
         due("refusals are not of the image", x.count(12), 1);
         due("-3", x.count(13), 1);
         due("on twice", x.on(), 1);
