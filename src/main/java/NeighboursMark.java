@@ -23,6 +23,8 @@ public final class NeighboursMark {
     private static final int MOST_ORDERS = 720;
     /** 4 numbers of hours for each of 6 PUPILS. */
     private static final int MOST_WAYS = 4096;
+    /** All bits of an int but its sign's; the greatest int, too. */
+    private static final int WITHOUT_SIGN = 0x7fffffff;
 
     private static final int LAW_OWN = 0;
     private static final int LAW_LEFT = 1;
@@ -475,7 +477,7 @@ public final class NeighboursMark {
     }
 
     private static int drawn(int seed, int below) {
-        return below <= 0 ? 0 : (seed & Integer.MAX_VALUE) / 256 % below;
+        return below <= 0 ? 0 : (seed & WITHOUT_SIGN) / 256 % below;
     }
 
     /** Numbers told one behind the other, so many at most. */
@@ -975,7 +977,7 @@ public final class NeighboursMark {
 
         int findLeastSum(School school) {
             begin(school);
-            int least = Integer.MAX_VALUE;
+            int least = WITHOUT_SIGN;
             boolean more = true;
             for (int k = 0; k < MOST_ORDERS && more; k++) {
                 least = Math.min(least, Marks.sumOfMarks(mind));

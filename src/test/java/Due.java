@@ -2,10 +2,12 @@
 final class Due {
     private int right = 0;
     private int wrong = 0;
+    private int parts = 0;
     private String part = "";
 
     void part(String name) {
         part = name;
+        parts++;
     }
 
     void due(String call, long got, long want) {
@@ -23,7 +25,7 @@ final class Due {
 
     /** Ends the test with exit code 1 if an answer was wrong. */
     void end() {
-        System.out.println(right + " answers as due, " + wrong + " not");
+        System.out.println(right + " answers as due in " + parts + " parts, " + wrong + " not");
         if (wrong != 0 || right == 0) {
             System.exit(1);
         }

@@ -12,7 +12,7 @@ import java.util.Set;
 import java.util.TreeSet;
 import java.util.regex.Pattern;
 
-/** The face is the document's; the source keeps to rules of LANGUAGE.md that can be looked up; calls make no objects. */
+/** The face is the document's; the source keeps to rules of LANGUAGE.md that can be looked up; calls make nothing. */
 public final class FaceTest {
     private static final Due d = new Due();
     private static final String[] FACE = {
@@ -101,6 +101,9 @@ public final class FaceTest {
         for (String sign : new String[] {"->", "::", "Exact(", "@", "[][]"}) {
             d.holds("without " + sign, !code.contains(sign));
         }
+        Set<String> library = Set.of("Math.max", "Math.min", "Integer.bitCount", "System.arraycopy");
+        Pattern used = Pattern.compile("\\b(?:Math|Integer|Long|System|Arrays|String|Character|List)\\s*\\.\\s*\\w+");
+        used.matcher(code).results().forEach(u -> d.holds(u.group() + " is listed", library.contains(u.group())));
         d.holds("signs 1 to 127 alone", text.chars().allMatch(c -> c >= 1 && c <= 127));
     }
 
