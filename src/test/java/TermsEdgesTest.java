@@ -394,7 +394,7 @@ public final class TermsEdgesTest {
     }
 
     private static void draws() {
-        int[] seeds = {0, 1, -1, 7, Integer.MAX_VALUE, Integer.MIN_VALUE, Integer.MIN_VALUE
+        int[] seeds = {0, 1, -1, 5, 7, Integer.MAX_VALUE, Integer.MIN_VALUE, Integer.MIN_VALUE
         + 1, 1 << 30, 12345, -98765};
         for (int below = 1; below <= 6; below++) {
             for (int seed : seeds) {
