@@ -656,15 +656,12 @@ public final class NeighboursMark {
         /** To be called whenever SEATS, PUPILS or RING have changed. */
         void findNeighbours() {
             for (int i = 0; i < count; i++) {
-                boolean last = i == count - 1;
                 int p = seats[i];
-                int next = !last ? seats[i + 1] : ring ? seats[0] : NONE;
-                left[p] = next;
-                if (next >= 0) {
-                    right[next] = p;
-                }
-                if (i == 0 && !ring) {
-                    right[p] = NONE;
+                int before = i > 0 ? seats[i - 1] : ring ? seats[count - 1] : NONE;
+                int next = i < count - 1 ? seats[i + 1] : ring ? seats[0] : NONE;
+                if (has(p)) {
+                    left[p] = next;
+                    right[p] = before;
                 }
             }
         }
@@ -891,6 +888,10 @@ public final class NeighboursMark {
             return c >= '0' && c <= '9';
         }
 
+        private int digitAt(int where) {
+            return text.at(where) - '0';
+        }
+
         private static int kindOf(int c) {
             for (int k = 0; k < KIND_LETTERS.length; k++) {
                 if (KIND_LETTERS[k] == c) {
@@ -902,10 +903,10 @@ public final class NeighboursMark {
 
         /** The STATEMENT at this place, which is well shaped, comes to the SCHOOL; false if it is not as it must be. */
         private boolean tell(School school) {
-            int digit = text.at(place + 1) - '0';
+            int digit = digitAt(place + 1);
             switch (text.at(place)) {
                 case 'p':
-                    return school.addPupil(kindOf(text.at(place + 1)), text.at(place + 2) - '0', text.at(place + 3) - '0');
+                    return school.addPupil(kindOf(text.at(place + 1)), digitAt(place + 2), digitAt(place + 3));
                 case 'h':
                     return school.setHours(digit);
                 case 'l':
@@ -917,9 +918,9 @@ public final class NeighboursMark {
                     school.setRing(false);
                     return true;
                 case 'x':
-                    return tellChange(school, digit, text.at(place + 2) - '0');
+                    return tellChange(school, digit, digitAt(place + 2));
                 default:
-                    school.pass = isDigit(text.at(place + 2)) ? digit * 10 + text.at(place + 2) - '0' : digit;
+                    school.pass = isDigit(text.at(place + 2)) ? digit * 10 + digitAt(place + 2) : digit;
                     return true;
             }
         }

@@ -4,6 +4,8 @@ import java.util.Random;
 public final class ModelTest {
     private static final Due d = new Due();
     private static final int RUNS = 220;
+    /** A letter that begins each STATEMENT, KINDS, digits in and out of range, what ends one, a strange one. */
+    private static final String SIGNS = "psxhlrwm074;q";
     private static final int[] EDGES = {-2, -1, 0, 1, 2, 3, 4, 5, 6, 7, 8, 9, 40, 41, 64, 99, 100, 255, 256,
         Integer.MIN_VALUE, Integer.MAX_VALUE};
 
@@ -20,7 +22,70 @@ public final class ModelTest {
             d.part("run " + run);
             new ModelTest(run).go(run % 4 == 0 ? 6 : 1 + run % 4);
         }
+        for (String begun : new String[] {"", "p", "ps10;", "w;x0"}) {
+            d.part("texts that begin with " + begun);
+            everyText(begun, 4);
+        }
+        everyState("pb37;", 1, 3);
+        everyState("pt62;pb29;", 2, 2);
+        everyState("pb37;pt62;pb15;", 3, 1);
         d.end();
+    }
+
+    /** Each LAW in a RING and in a ROW, with all ways of hours, whoever is SICK. */
+    private static void everyState(String pupils, int n, int hours) {
+        int ways = (int) Math.pow(hours + 1, n);
+        for (int k = 0; k < 7 * 2 * ways << n; k++) {
+            String start = "h" + hours + ";l" + k % 7 + ";" + (k / 7 % 2 == 0 ? "r;" : "w;") + "m" + k % 23 + ";";
+            d.part(start + pupils + " " + k);
+            ModelTest test = new ModelTest(k);
+            test.tell(start + pupils);
+            test.setHoursAndSick(n, k / 14 % ways, k / 14 / ways);
+            test.lookAtAll(n);
+            test.tellMarks();
+            test.call("week", 8, 0, 0);
+            test.call("again", 14, 0, 0);
+        }
+    }
+
+    private void setHoursAndSick(int n, int way, int sick) {
+        int left = way;
+        for (int p = 0; p < n; p++) {
+            call("learn", 4, p, left % (m.now.hours + 1));
+            call("sick", 3, p, sick >> p & 1);
+            left /= m.now.hours + 1;
+        }
+    }
+
+    /** What is asked as things stand and in mind, calls 9 to 25 of answer(). */
+    private void lookAtAll(int n) {
+        for (int which = 9; which <= 25; which++) {
+            for (int a = 0; a <= n; a++) {
+                boolean takesTwo = which == 13 || which == 23 || which == 25;
+                for (int b = 0; b <= (takesTwo ? 2 : 0); b++) {
+                    call("look " + which, which, a, b);
+                }
+            }
+        }
+        for (int pupils = 0; pupils <= 1 << n; pupils++) {
+            call("mends", 24, pupils, 0);
+        }
+    }
+
+    /** Every text that goes on with at most so many signs: FAULTS and their places, and what comes of it. */
+    private static void everyText(String begun, int more) {
+        new ModelTest(0).tellAlone(begun);
+        for (int i = 0; i < SIGNS.length() && more > 0; i++) {
+            everyText(begun + SIGNS.charAt(i), more - 1);
+        }
+    }
+
+    private void tellAlone(String text) {
+        tell("po11;");
+        tell(text);
+        for (int what = 0; what <= 7; what++) {
+            call("count behind " + text, 33, what, 0);
+        }
     }
 
     private void go(int pupils) {
